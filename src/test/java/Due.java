@@ -43,18 +43,29 @@ final class Due {
         return x;
     }
 
-    /** All that can be asked about the state, in one line. */
-    static String state(WheelCount x) {
+    /** WHEELS and COUNT, in one line. */
+    static String row(WheelCount x) {
         StringBuilder s = new StringBuilder();
         for (int what = 0; what <= 5; what++) {
-            s.append(x.rule(what)).append(' ').append(x.count(what)).append(' ');
+            s.append(x.rule(what)).append(' ');
         }
-        for (int w = 0; w < 5; w++) {
+        for (int w = 0; w < x.rule(0); w++) {
             for (int what = 0; what <= 4; what++) {
                 s.append(x.wheel(w, what)).append(' ');
             }
+        }
+        return s.toString();
+    }
+
+    /** All that can be asked about the state but the fault of the text, in one line. */
+    static String state(WheelCount x) {
+        StringBuilder s = new StringBuilder(row(x));
+        for (int what = 0; what <= 5; what++) {
+            s.append(x.count(what)).append(' ');
+        }
+        for (int w = 0; w < x.rule(0); w++) {
             s.append(x.kinds(w)).append(' ').append(x.broken(w)).append(' ');
         }
-        return s.append(x.fault()).append(' ').append(x.torn()).toString();
+        return s.append(x.torn()).toString();
     }
 }

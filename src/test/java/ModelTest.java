@@ -138,7 +138,7 @@ public final class ModelTest {
 
     /** Mostly fitting, now and then at an edge or beyond it. */
     private int upTo(int low, int high) {
-        switch (random.nextInt(24)) {
+        switch (random.nextInt(48)) {
             case 0:
                 return low - 1;
             case 1:
@@ -149,6 +149,10 @@ public final class ModelTest {
                 return low;
             case 4:
                 return high;
+            case 5:
+                return Integer.MIN_VALUE;
+            case 6:
+                return Integer.MAX_VALUE;
             default:
                 return low + random.nextInt(high - low + 1);
         }
