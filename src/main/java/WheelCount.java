@@ -250,8 +250,7 @@ public final class WheelCount {
         int least = trialErrorBehind(n);
         int best = NONE;
         for (int w = 0; w < now.size; w++) {
-            trial.copyOf(now);
-            trial.broken[w] = UNBROKEN;
+            tryPart(w, OF_BROKEN, UNBROKEN);
             int error = trialErrorBehind(n);
             if (error < least) {
                 least = error;
@@ -283,58 +282,15 @@ public final class WheelCount {
     }
 
     public int kind(int w, int n, int what) {
-        if (!now.has(w) || !within(n, 0, SHORT_RUN) || !within(what, 0, 1)) {
-            return BAD;
-        }
-        int least = Integer.MAX_VALUE;
-        int best = 0;
-        for (int kind = 0; kind < KINDS; kind++) {
-            trial.copyOf(now);
-            trial.kind[w] = kind;
-            int error = trialErrorBehind(n);
-            if (error < least) {
-                least = error;
-                best = kind;
-            }
-        }
-        return what == 0 ? best : least;
+        return bestPart(w, OF_KIND, n, what);
     }
 
     public int begin(int w, int n, int what) {
-        if (!now.has(w) || !within(n, 0, SHORT_RUN) || !within(what, 0, 1)) {
-            return BAD;
-        }
-        int least = Integer.MAX_VALUE;
-        int best = 0;
-        for (int digit = 0; digit < now.teeth[w]; digit++) {
-            trial.copyOf(now);
-            trial.digit[w] = digit;
-            int error = trialErrorBehind(n);
-            if (error < least) {
-                least = error;
-                best = digit;
-            }
-        }
-        return what == 0 ? best : least;
+        return bestPart(w, OF_DIGIT, n, what);
     }
 
     public int file(int w, int n, int what) {
-        if (!now.has(w) || !within(n, 0, SHORT_RUN) || !within(what, 0, 1)) {
-            return BAD;
-        }
-        int least = Integer.MAX_VALUE;
-        int best = 0;
-        for (int tooth = 0; tooth < now.teeth[w]; tooth++) {
-            trial.copyOf(now);
-            trial.broken[w] = tooth;
-            trial.push(n);
-            int reads = trial.reading();
-            if (reads < least) {
-                least = reads;
-                best = tooth;
-            }
-        }
-        return what == 0 ? best : least;
+        return bestPart(w, OF_BROKEN, n, what);
     }
 
     // ---- pushes that are missed
@@ -400,9 +356,7 @@ public final class WheelCount {
         }
         int bits = 0;
         for (int kind = 0; kind < KINDS; kind++) {
-            trial.copyOf(now);
-            trial.kind[w] = kind;
-            if (seen.fits(trial)) {
+            if (fitsWith(w, OF_KIND, kind)) {
                 bits |= 1 << kind;
             }
         }
@@ -413,14 +367,9 @@ public final class WheelCount {
         if (!now.has(w)) {
             return BAD;
         }
-        int bits = 0;
-        for (int tooth = 0; tooth <= UNBROKEN; tooth++) {
-            if (tooth >= now.teeth[w] && tooth != UNBROKEN) {
-                continue;
-            }
-            trial.copyOf(now);
-            trial.broken[w] = tooth;
-            if (seen.fits(trial)) {
+        int bits = fitsWith(w, OF_BROKEN, UNBROKEN) ? 1 << UNBROKEN : 0;
+        for (int tooth = 0; tooth < now.teeth[w]; tooth++) {
+            if (fitsWith(w, OF_BROKEN, tooth)) {
                 bits |= 1 << tooth;
             }
         }
@@ -566,9 +515,41 @@ public final class WheelCount {
         return v >= least && v <= most;
     }
 
+    /** The trial is as it would be now, if a part of a wheel were v. */
+    private void tryPart(int w, int part, int v) {
+        trial.copyOf(now);
+        trial.set(w, part, v);
+    }
+
     private int trialErrorBehind(int n) {
         trial.push(n);
         return trial.error();
+    }
+
+    /** Which of its values a part of a wheel had better have (what 0), and at what cost. */
+    private int bestPart(int w, int part, int n, int what) {
+        if (!now.has(w) || !within(n, 0, SHORT_RUN) || !within(what, 0, 1)) {
+            return BAD;
+        }
+        int values = part == OF_KIND ? KINDS : now.teeth[w];
+        int least = Integer.MAX_VALUE;
+        int best = 0;
+        for (int v = 0; v < values; v++) {
+            tryPart(w, part, v);
+            trial.push(n);
+            // A tooth is broken for what it reads, all else is for the error.
+            int cost = part == OF_BROKEN ? trial.reading() : trial.error();
+            if (cost < least) {
+                least = cost;
+                best = v;
+            }
+        }
+        return what == 0 ? best : least;
+    }
+
+    private boolean fitsWith(int w, int part, int v) {
+        tryPart(w, part, v);
+        return seen.fits(trial);
     }
 
     /** Fills ways for n pushes, each missed by v out of ten; answers ten to the n. */
@@ -613,8 +594,7 @@ public final class WheelCount {
     }
 
     private void fillReadings(int w, int tooth, int[] behind) {
-        trial.copyOf(now);
-        trial.broken[w] = tooth;
+        tryPart(w, OF_BROKEN, tooth);
         for (int i = 0; i <= SHORT_RUN; i++) {
             behind[i] = trial.reading();
             trial.pushOnce();
@@ -672,6 +652,11 @@ public final class WheelCount {
                 return STATE;
             }
             int was = part(w, what);
+            set(w, what, v);
+            return was;
+        }
+
+        private void set(int w, int what, int v) {
             switch (what) {
                 case OF_KIND:
                     kind[w] = v;
@@ -686,7 +671,6 @@ public final class WheelCount {
                     broken[w] = v;
                     break;
             }
-            return was;
         }
 
         private static boolean mayEverBe(int what, int v) {
@@ -1002,7 +986,6 @@ public final class WheelCount {
             while (start < tape.length && tape.bytes[start] == ' ') {
                 start++;
             }
-            stop = start;
             if (start >= tape.length) {
                 token = AT_END;
                 return true;
@@ -1018,20 +1001,21 @@ public final class WheelCount {
                 stop = endOfRun('a', 'z');
                 return true;
             }
-            return within(first, '0', '9') ? takeNumber() : fail(NO_TOKEN);
-        }
-
-        private boolean takeNumber() {
-            token = NUMBER;
-            stop = endOfRun('0', '9');
-            if (stop - start > 2) {
+            if (!within(first, '0', '9')) {
                 return fail(NO_TOKEN);
             }
-            value = 0;
+            token = NUMBER;
+            stop = endOfRun('0', '9');
+            value = valueOfFigures();
+            return stop - start <= 2 || fail(NO_TOKEN);
+        }
+
+        private int valueOfFigures() {
+            int sum = 0;
             for (int i = start; i < stop; i++) {
-                value = 10 * value + tape.bytes[i] - '0';
+                sum = 10 * sum + tape.bytes[i] - '0';
             }
-            return true;
+            return sum;
         }
 
         private int endOfRun(int least, int most) {
@@ -1075,7 +1059,7 @@ public final class WheelCount {
         }
     }
 
-    /** What it was read to show, or will be, behind so many pushes from now on. */
+    /** What it READS behind so many pushes from now on, as somebody has seen it. */
     private static final class Seen {
         private int size;
         private final int[] behind = new int[MOST_SEEN];

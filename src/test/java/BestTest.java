@@ -59,6 +59,15 @@ public final class BestTest {
         WheelCount several = Due.told("plain 2 1;plain 2 0;plain 2 0;count 3;");
         due.is("of several the least", several.swap(0, 0), 1);
         due.is("of several: ERROR", several.swap(0, 1), 1);
+        // By COUNT 13 it READS 3, for a late one does not carry from 0; changed it READS 15.
+        WheelCount byKind = Due.told("late 4 0;back 4 0;count 12;");
+        due.is("KINDS change places", byKind.swap(1, 0), 1);
+        due.is("KINDS change places", byKind.swap(1, 1), 2);
+        WheelCount byTooth = Due.told("plain 4 3 3;plain 4 3;count 3;");
+        due.is("BROKEN teeth change places", byTooth.swap(1, 0), 1);
+        due.is("BROKEN teeth change places", byTooth.swap(1, 1), 4);
+        WheelCount five = Due.told("plain 2 0;plain 2 0;plain 2 0;plain 2 1;plain 2 0;count 16;");
+        due.is("the last two of five", five.swap(0, 0), 34);
         due.is("a single one", Due.told("plain 3 1;").swap(3, 0), WheelCount.NONE);
         due.is("without WHEELS", new WheelCount().swap(200, 0), WheelCount.NONE);
     }
@@ -88,6 +97,11 @@ public final class BestTest {
         WheelCount last = Due.told("plain 12 0;count 11;");
         due.is("the last DIGIT", last.begin(0, 0, 0), 11);
         due.is("behind 200", last.begin(0, 200, 0), 11);
+        WheelCount first = Due.told("plain 3 2;");
+        due.is("the first DIGIT", first.begin(0, 0, 0), 0);
+        WheelCount few = Due.told("plain 3 0;plain 3 0;count 3;");
+        due.is("no DIGIT that it has not", few.begin(0, 0, 0), 2);
+        due.is("ERROR then", few.begin(0, 0, 1), 1);
     }
 
     private void files() {
@@ -96,6 +110,8 @@ public final class BestTest {
         due.is("file(0, 3, 1)", x.file(0, 3, 1), 0);
         due.is("file(1, 3, 0)", x.file(1, 3, 0), 0);
         due.is("file(1, 3, 1)", x.file(1, 3, 1), 3);
+        due.is("file(0, 0, 0)", x.file(0, 0, 0), 0);
+        due.is("file(0, 200, 1)", x.file(0, 200, 1), 2);
         WheelCount worn = Due.told("plain 3 2 2;back 3 0;");
         due.is("in place of what is", worn.file(0, 1, 0), 2);
         due.is("in place of what is", worn.file(0, 1, 1), 0);

@@ -160,6 +160,15 @@ public final class ChangeTest {
         due.is("cut(2)", x.cut(2), WheelCount.BAD);
         due.is("cut(0)", x.cut(0), 1);
         due.is("cut(0)", x.cut(0), 0);
+        WheelCount less = Due.told("plain 2 0;plain 2 1 0;");
+        due.is("both", less.rule(5), 2);
+        less.cut(1);
+        due.is("what is cut would not CARRY", less.rule(5), 0);
+        due.is("nor is it BROKEN", less.count(5), 0);
+        due.is("nor has it TEETH", less.count(4), 2);
+        due.is("nor is it waited for", less.again(), 2);
+        due.is("nor does it SHOW", less.runs(2, 4), 1);
+        due.is("nor does it CARRY", less.runs(2, 1), 1);
     }
 
     private void turnsByHand() {
@@ -181,5 +190,8 @@ public final class ChangeTest {
         due.is("KIND stays", x.wheel(1, 0), 3);
         due.is("BROKEN stays", x.wheel(1, 3), 1);
         due.is("clear() again", x.clear(), 0);
+        WheelCount five = Due.told("plain 2 1;plain 2 1;plain 2 1;plain 2 1;plain 2 1;");
+        due.is("clear() of five", five.clear(), 31);
+        due.is("it READS", five.rule(2), 0);
     }
 }

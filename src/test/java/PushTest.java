@@ -74,6 +74,10 @@ public final class PushTest {
         WheelCount high = Due.told("plain 3 2;plain 2 1;");
         due.is("the greatest, now too", high.runs(3, 2), 5);
         due.is("without WHEELS", new WheelCount().runs(9, 4), 9);
+        WheelCount five = Due.told("plain 2 0;plain 2 0;plain 2 0;plain 2 0;plain 2 0;");
+        due.is("five WHEELS: runs(32, 4)", five.runs(32, 4), 1);
+        due.is("five WHEELS: runs(31, 2)", five.runs(40, 2), 31);
+        due.is("five WHEELS: runs(32, 1)", five.runs(32, 1), 31);
     }
 
     private void runsOfKinds() {
@@ -120,6 +124,7 @@ public final class PushTest {
         WheelCount x = Due.told("plain 10 3;plain 10 0;plain 12 0;");
         due.is("shows(0, 3)", x.shows(0, 3), 0);
         due.is("shows(0, 2)", x.shows(0, 2), 9);
+        due.is("shows(0, 0)", x.shows(0, 0), 7);
         due.is("shows(1, 9)", x.shows(1, 9), 87);
         due.is("shows(2, 9)", x.shows(2, 9), 897);
         due.is("shows(2, 10)", x.shows(2, 10), 997);
@@ -139,6 +144,9 @@ public final class PushTest {
         due.is("1000", Due.told("plain 10 1;plain 10 1;plain 10 5;").again(), 1000);
         due.is("more than 1000", Due.told("plain 10 1;plain 10 1;plain 11 5;").again(), WheelCount.NONE);
         due.is("hasty with 2 teeth", Due.told("hasty 2 1;").again(), 1);
+        WheelCount asked = Due.told("plain 7 1;");
+        asked.ahead(0, 4);
+        due.is("another question ahead of it", asked.again(), 7);
         due.is("BROKEN", Due.told("plain 10 1 9;plain 10 1;plain 11 5;").again(), 10);
     }
 

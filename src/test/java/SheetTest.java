@@ -116,10 +116,15 @@ public final class SheetTest {
         due.is("it READS", x.rule(2), 11);
         due.is("COUNT", x.rule(1), 12);
         due.is("torn()", x.torn(), 0);
+        x.sheet(3, 2, 2);
+        due.is("SHEET 3", x.read(3, 2, 0, 1), 1);
         due.is("read(1, 1, 1, 1): from any CELL", x.read(1, 1, 1, 1), -20);
         due.is("read(1, 1, 0, 0)", x.read(1, 1, 0, 0), 0);
         due.is("read(1, 1, 99, 0): none is read", x.read(1, 1, 99, 0), 0);
         due.is("torn()", x.torn(), 0);
+        x.sheet(1, 1, 2);
+        due.is("a new row", x.read(1, 1, 0, 1), 1);
+        due.is("CELLS are 0, then a PUSH", x.wheel(0, 2), 1);
         WheelCount many = laid("plain 3 0;", new int[40]);
         due.is("20 of them", many.read(1, 1, 0, 20), 20);
         due.is("COUNT", many.rule(1), 20);

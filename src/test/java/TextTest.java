@@ -94,6 +94,9 @@ public final class TextTest {
         tells(" 7", -11, 2);
         tells("plainer 2 0;", -10, 2);
         tells("plai 2 0;", -10, 2);
+        tells("slain 2 0;", -10, 2);
+        tells("plaid 2 0;", -10, 2);
+        tells("pack 2 0;", -10, 2);
         tells("wheel", -10, 2);
         tells("plain plain", -16, 2);
         tells("plain ;", -16, 2);
