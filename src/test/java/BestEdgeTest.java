@@ -22,6 +22,7 @@ public final class BestEdgeTest {
         test.swapLessThanAsItIs();
         test.swapTheLeastOfSeveral();
         test.swapFewWheels();
+        test.swapAllOfThem();
         test.swapOfFive();
         test.kindBad();
         test.kindTheFirstOfSeveral();
@@ -155,6 +156,14 @@ public final class BestEdgeTest {
         due.is("none", new WheelCount().swap(0, 0), WheelCount.NONE);
         swaps("plain 9 4;count 7;", 5, WheelCount.NONE, WheelCount.NONE);
         swaps("plain 3 0;plain 3 2;count 2;", 0, 1, 0);
+    }
+
+    /** It is less by 01 for another DIGIT, for other TEETH, for a BROKEN tooth, for another KIND. */
+    private void swapAllOfThem() {
+        swaps("plain 2 1;plain 5 0;count 5;", 0, 1, 0);
+        swaps("plain 5 1;plain 2 1;count 3;", 0, 1, 0);
+        swaps("plain 4 3 3;plain 4 3;count 99;", 1, 1, 4);
+        swaps("late 4 0;back 4 0;count 14;", 1, 1, 0);
     }
 
     private void swapOfFive() {

@@ -29,6 +29,7 @@ public final class PushEdgeTest {
         test.againFromOneOn();
         test.againAtMost();
         test.againOfAllWheels();
+        test.byPushesNothingChanges();
         test.due.close();
     }
 
@@ -114,6 +115,9 @@ public final class PushEdgeTest {
         WheelCount stuck = Due.told("plain 2 1 1;plain 2 1;");
         due.is("one never does", stuck.runs(1000, 4), 0);
         due.is("a hasty one is there all the time", Due.told("hasty 2 0;").runs(1000, 4), 1000);
+        WheelCount five = Due.told("plain 2 0;plain 2 0;plain 2 0;plain 2 0;plain 2 0;");
+        due.is("five: behind the 31st not yet", five.runs(31, 4), 0);
+        due.is("five: behind the 32nd", five.runs(32, 4), 1);
     }
 
     private void carriesOfAnyWheel() {
@@ -218,5 +222,20 @@ public final class PushEdgeTest {
         due.is("the last one, too", Due.told("plain 2 0;plain 2 0;plain 2 0;plain 2 0;plain 2 0;").again(), 32);
         due.is("one that is never turned", Due.told("plain 5 0 4;plain 7 3;").again(), 5);
         due.is("the first one alone differs", Due.told("plain 5 0;hasty 2 0;").again(), 5);
+        WheelCount asked = Due.told("plain 7 1;");
+        asked.ahead(0, 4);
+        due.is("from now on, whatever was asked before", asked.again(), 7);
+    }
+
+    /** As it would be: no question of these pushes. */
+    private void byPushesNothingChanges() {
+        for (int i = 0; i <= 4; i++) {
+            int what = i;
+            rich.stays("runs(1000, " + what + ")", x -> Math.min(0, x.runs(1000, what)), 0);
+            full.stays("runs(1000, " + what + ")", x -> Math.min(0, x.runs(1000, what)), 0);
+        }
+        full.stays("ahead(1, 1000)", x -> Math.min(0, x.ahead(1, 1000)), 0);
+        full.stays("when(1)", x -> x.when(1), WheelCount.NONE);
+        rich.stays("shows(0, 11)", x -> x.shows(0, 11), WheelCount.NONE);
     }
 }

@@ -148,6 +148,8 @@ public final class TextEdgeTest {
             tells(kind + "s 2 0;", -10, 2);
             tells(kind.substring(1) + " 2 0;", -10, 2);
             tells(kind + kind + " 2 0;", -10, 2);
+            tells("x" + kind.substring(1) + " 2 0;", -10, 2);
+            tells(kind.substring(0, kind.length() - 1) + "x 2 0;", -10, 2);
             tells(kind.charAt(0) + " " + kind.substring(1) + " 2 0;", -10, 2);
         }
         tells("count 1;", 1, 0);
