@@ -24,8 +24,8 @@ public final class WheelCount {
     private final Row trial = new Row();
     private final Row[] images = {new Row(), new Row()};
     private final boolean[] imageKept = new boolean[IMAGES];
-    private final Tape tape = new Tape();
-    private final Teller teller = new Teller(tape);
+    private final Teller teller = new Teller();
+    private final Tape tape = teller.tape;
     private final Seen seen = new Seen();
     private final Sheet[] sheets = {new Sheet(), new Sheet(), new Sheet(), new Sheet()};
     private int latestTear = Sheet.SOUND;
@@ -532,7 +532,8 @@ public final class WheelCount {
             return BAD;
         }
         int values = part == OF_KIND ? KINDS : now.teeth[w];
-        int least = Integer.MAX_VALUE;
+        // Neither what it reads nor the error is ever as much: the first value is taken.
+        int least = MOST_READ + 1;
         int best = 0;
         for (int v = 0; v < values; v++) {
             tryPart(w, part, v);
@@ -877,7 +878,7 @@ public final class WheelCount {
         private static final int OUT_OF_BOUNDS = 3, SECOND_COUNT = 4, SIXTH_WHEEL = 5;
         private static final int AT_END = 0, NAME = 1, NUMBER = 2, SEMICOLON = 3;
 
-        private final Tape tape;
+        private final Tape tape = new Tape();
         private int faultFound = NO_FAULT;
         private int faultPlace;
         private int lines;
@@ -887,10 +888,6 @@ public final class WheelCount {
         private int start;
         private int stop;
         private int value;
-
-        private Teller(Tape from) {
-            tape = from;
-        }
 
         private boolean tell(Row draft) {
             draft.size = 0;
